@@ -4,6 +4,7 @@ public final class AccountsTest {
 
     public static void main(String[] args) {
         accounts();
+        resitsAndAbsences();
         credits();
         settings();
         CHECK.end();
@@ -44,6 +45,21 @@ public final class AccountsTest {
         x.absent(1, 1, 1);
         dueAccounts(x, new int[] {3, 2, 2, 4, 1, 1, 153, 6, 10, 2, 8, 40, 30, 2, 2, 40});
         CHECK.due("account(-1)", x.account(-1), ExamBoard.BAD);
+    }
+
+    private static void resitsAndAbsences() {
+        CHECK.about("promise 30, resits and absences of each paper");
+        ExamBoard x = Check.withModules(1, 1);
+        x.addStudent(0);
+        x.absent(0, 0, 1);
+        CHECK.due("account(5)", x.account(5), 1);
+        x.absent(0, 1, 0);
+        CHECK.due("account(5)", x.account(5), 2);
+        x.resit(0, 0, 50);
+        CHECK.due("account(4)", x.account(4), 1);
+        x.resit(0, 1, 50);
+        CHECK.due("account(4)", x.account(4), 2);
+        CHECK.due("account(6)", x.account(6), 90);
     }
 
     private static void credits() {

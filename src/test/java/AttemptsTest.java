@@ -13,6 +13,7 @@ public final class AttemptsTest {
         attempt();
         attemptVerdicts();
         entered();
+        enteredAll();
         CHECK.end();
     }
 
@@ -112,6 +113,11 @@ public final class AttemptsTest {
         CHECK.due("capped after a mark", x.resit(0, 0, 90), 40);
         CHECK.due("capped after an absence", x.resit(0, 1, 90), 40);
         CHECK.due("not capped after an excuse", x.resit(0, 2, 90), 90);
+        x.undo();
+        CHECK.due("nothing at all", x.resit(0, 2, 0), 0);
+        CHECK.due("a resit all the same", x.attempt(0, 2, 3), 0);
+        x.undo();
+        CHECK.due("not capped once more", x.resit(0, 2, 90), 90);
         CHECK.due("below the cap", x.resit(0, 3, 38), 38);
         CHECK.due("mark 0", x.attempt(0, 0, 5), 40);
         CHECK.due("mark 1", x.attempt(0, 1, 5), 40);
@@ -277,6 +283,31 @@ public final class AttemptsTest {
         x.undo();
         x.undo();
         dueOrder(x, new int[][] {{1, 1, 50}, {0, 0, 35}, {1, 0, 0}});
+    }
+
+    private static void enteredAll() {
+        CHECK.about("promise 12, every student in every paper");
+        ExamBoard x = new ExamBoard();
+        x.addModule(1);
+        for (int paper = 0; paper < 8; paper++) {
+            x.addPaper(0, 1, 100);
+        }
+        for (int student = 0; student < 20; student++) {
+            x.addStudent(0);
+            for (int paper = 0; paper < 8; paper++) {
+                x.mark(student, 7 - paper, 40 + student + paper);
+            }
+        }
+        for (int i = 0; i < 160; i++) {
+            CHECK.due("entered(" + i + ", 0)", x.entered(i, 0), i / 8);
+            CHECK.due("entered(" + i + ", 1)", x.entered(i, 1), 7 - i % 8);
+            CHECK.due("entered(" + i + ", 2)", x.entered(i, 2), 40 + i / 8 + i % 8);
+        }
+        CHECK.due("entered(160, 0)", x.entered(160, 0), ExamBoard.NONE);
+        CHECK.due("account(3)", x.account(3), 160);
+        x.remove(0, 7);
+        CHECK.due("entered(158, 1)", x.entered(158, 1), 0);
+        CHECK.due("entered(159, 0)", x.entered(159, 0), ExamBoard.NONE);
     }
 
     private static void dueOrder(ExamBoard x, int[][] rows) {

@@ -11,6 +11,7 @@ public final class ResultsTest {
         classesByAverage();
         border();
         borderCredits();
+        exactLimits();
         again();
         whyIncomplete();
         whyFailed();
@@ -116,6 +117,8 @@ public final class ResultsTest {
         dueStudent(x, new int[] {2, 4800, 5, 2, 1, 1, 0, 4, 1});
         x.set(1, 25);
         dueStudent(x, new int[] {2, 4800, 4, 5, 2, 0, 0, 4, 1});
+        x.resit(0, 0, 10);
+        dueStudent(x, new int[] {2, 4800, 4, 5, 2, 0, 0, 4, 2});
         CHECK.due("why(0, 0), near the border, but no module at the limit", x.why(0, 0), 4);
         CHECK.due("student(0, 9)", x.student(0, 9), ExamBoard.BAD);
         CHECK.due("student(0, -1)", x.student(0, -1), ExamBoard.BAD);
@@ -226,6 +229,26 @@ public final class ResultsTest {
         CHECK.due("four of seven, again", w.again(1), 1);
     }
 
+    private static void exactLimits() {
+        CHECK.about("classes, just at the limit of the average");
+        ExamBoard x = Check.withModules(1, 2);
+        Check.addStudent(x, 0, 80, 65);
+        CHECK.due("class without half of the credits", x.student(0, 2), 1);
+        CHECK.due("again without half of the credits", x.again(0), 1);
+        ExamBoard y = Check.withModules(9, 8, 4);
+        y.set(0, 30);
+        y.set(3, 5);
+        // 1364 / 21 = 64.95.., and 1365 / 21 = 65
+        Check.addStudent(y, 0, 72, 70, 39);
+        CHECK.due("average", y.student(0, 1), 6495);
+        CHECK.due("class just below the border", y.student(0, 2), 2);
+        CHECK.due("again just below the border", y.again(0), 2);
+        Check.addStudent(y, 0, 73, 70, 37);
+        CHECK.due("average", y.student(1, 1), 6500);
+        CHECK.due("class just at the border", y.student(1, 2), 1);
+        CHECK.due("again just at the border", y.again(1), 1);
+    }
+
     private static void again() {
         CHECK.about("promise 18");
         ExamBoard x = Check.withModules(3, 5, 8);
@@ -262,6 +285,8 @@ public final class ResultsTest {
         dueWhy(x, 0, 1, 1);
         x.mark(0, 1, 20);
         dueWhy(x, 0, 1, 2);
+        x.addPaper(0, 1, 100);
+        dueWhy(x, 0, 1, 0);
         CHECK.due("why(0, 2)", x.why(0, 2), ExamBoard.BAD);
         CHECK.due("why(0, -1)", x.why(0, -1), ExamBoard.BAD);
         CHECK.due("why(1, 2)", x.why(1, 2), ExamBoard.NONE);
@@ -301,8 +326,10 @@ public final class ResultsTest {
 
     private static void dueRanks(ExamBoard x, int... students) {
         for (int place = 0; place < students.length; place++) {
-            CHECK.due("ranked(" + place + ")", x.ranked(place), students[place]);
             CHECK.due("student(" + students[place] + ", 6)", x.student(students[place], 6), place);
+        }
+        for (int place = 0; place < students.length; place++) {
+            CHECK.due("ranked(" + place + ")", x.ranked(place), students[place]);
         }
         CHECK.due("ranked(" + students.length + ")", x.ranked(students.length), ExamBoard.NONE);
         CHECK.due("ranked(-1)", x.ranked(-1), ExamBoard.NONE);

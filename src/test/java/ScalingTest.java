@@ -165,6 +165,8 @@ public final class ScalingTest {
             CHECK.due("paper 0 of " + student, x.attempt(student, 0, 2), 50);
             CHECK.due("paper 1 of " + student, x.attempt(student, 1, 2), student == 2 ? 57 : 50);
             CHECK.due("percent of " + student, x.attempt(student, 1, 1), 50);
+            CHECK.due("scaled(0, " + student + ", 60)", x.scaled(0, student, 60), 60);
+            CHECK.due("scaled(1, " + student + ", 60)", x.scaled(1, student, 60), student == 2 ? 67 : 60);
         }
     }
 }

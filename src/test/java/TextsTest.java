@@ -106,6 +106,8 @@ public final class TextsTest {
         CHECK.due("attempt(7, 4, 0)", x.attempt(7, 4, 0), 9);
         CHECK.due("attempt(7, 3, 0)", x.attempt(7, 3, 0), 200);
         CHECK.due("attempt(19, 7, 0)", x.attempt(19, 7, 0), 123);
+        CHECK.due("a great mark", Check.read(x, "m0.0=999"), ExamBoard.REFUSED);
+        CHECK.due("it is not that of the next text", Check.read(x, "e0.0"), 1);
         CHECK.due("no such student", Check.read(x, "e020.0"), ExamBoard.REFUSED);
         CHECK.due("refusal(2)", x.refusal(2), 20);
         CHECK.due("no such paper", Check.read(x, "e0.999"), ExamBoard.REFUSED);

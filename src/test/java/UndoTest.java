@@ -12,6 +12,7 @@ public final class UndoTest {
         undoLeaves();
         saveAndRestore();
         restoreAll();
+        restoreWhatWasReplaced();
         snapshotAndUndo();
         errorsChangeNothing();
         CHECK.end();
@@ -222,6 +223,34 @@ public final class UndoTest {
             CHECK.due("the reason", x.refusal(2), 99);
             x.read();
         }
+    }
+
+    /** What is undone behind the snapshot and added otherwise must not stay in the restored state. */
+    private static void restoreWhatWasReplaced() {
+        CHECK.about("promise 33, what was replaced");
+        ExamBoard x = new ExamBoard();
+        x.addModule(2);
+        x.addModule(3);
+        x.addPaper(1, 4, 60);
+        x.addStudent(2);
+        x.save();
+        List<Integer> saved = state(x);
+        for (int i = 0; i < 4; i++) {
+            x.undo();
+        }
+        x.addModule(7);
+        x.addPaper(0, 9, 110);
+        x.addStudent(0);
+        x.addModule(8);
+        x.restore();
+        CHECK.due("the saved state", state(x), saved);
+        CHECK.due("module of the paper", x.paper(0, 0), 1);
+        CHECK.due("weight of the paper", x.paper(0, 1), 4);
+        CHECK.due("full mark of the paper", x.paper(0, 2), 60);
+        CHECK.due("cohort of the student", x.student(0, 0), 2);
+        CHECK.due("credits that count", x.account(7), 3);
+        x.addPaper(0, 1, 100);
+        CHECK.due("credits of both", x.account(7), 5);
     }
 
     private static void snapshotAndUndo() {

@@ -7,6 +7,7 @@ public final class WouldBeTest {
         classIfCompensated();
         needed();
         neededWithCompensation();
+        neededEdges();
         neededSkips();
         changedIf();
         changedIfOfEach();
@@ -99,6 +100,37 @@ public final class WouldBeTest {
         CHECK.due("low mark 0", x.needed(0, 0), 34);
         // (0 + 79) / 2 = 39.5, that is 40
         CHECK.due("low mark 0, the other paper", x.needed(1, 1), 79);
+    }
+
+    private static void neededEdges() {
+        CHECK.about("promise 23, the marks 0 and 100");
+        ExamBoard x = Check.withModules(1, 1);
+        x.set(3, 0);
+        Check.addStudent(x, 0, 40, 70);
+        CHECK.due("50 and 70", x.needed(0, 0), 50);
+        Check.addStudent(x, 0, 50, 40);
+        CHECK.due("50 and 50", x.needed(1, 1), 50);
+        Check.addStudent(x, 0, 40, 60);
+        CHECK.due("class 3", x.student(2, 2), 3);
+        CHECK.due("60 and 60", x.needed(2, 0), 60);
+        Check.addStudent(x, 0, 40, 50);
+        CHECK.due("class 4", x.student(3, 2), 4);
+        CHECK.due("40 and 60", x.needed(3, 1), 60);
+        ExamBoard y = Check.withModules(1, 1);
+        y.set(3, 0);
+        Check.addStudent(y, 0, 40, 95);
+        CHECK.due("class 2", y.student(0, 2), 2);
+        CHECK.due("40 and 100", y.needed(0, 1), 100);
+        Check.addStudent(y, 0, 40, 40);
+        y.set(0, 41);
+        CHECK.due("none", y.needed(1, 1), ExamBoard.NOTHING);
+        ExamBoard z = new ExamBoard();
+        z.addModule(1);
+        z.addPaper(0, 1, 100);
+        z.addPaper(0, 1, 100);
+        z.set(1, 0);
+        Check.addStudent(z, 0, 100);
+        CHECK.due("0 is compensated", z.needed(0, 1), 0);
     }
 
     /** A greater mark can be worse: it can use up a compensation that another paper needs. */
